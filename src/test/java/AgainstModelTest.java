@@ -77,17 +77,20 @@ public final class AgainstModelTest {
     /** A boat, now and then one that there is not. */
     private static int someBoat() {
         int boats = model.told(2);
+        if (random.nextInt(100) == 0) return random.nextBoolean() ? Integer.MIN_VALUE : Integer.MAX_VALUE;
         return random.nextInt(12) == 0 || boats == 0 ? random.nextInt(8) - 2 : random.nextInt(boats);
     }
 
     private static int someJunction() {
         int junctions = model.told(0);
+        if (random.nextInt(100) == 0) return random.nextBoolean() ? Integer.MIN_VALUE : Integer.MAX_VALUE;
         return random.nextInt(12) == 0 || junctions == 0 ? random.nextInt(12) - 2 : random.nextInt(junctions);
     }
 
-    /** low .. high, now and then one beside them, often one at the edge. */
+    /** low .. high, now and then one beside them or far off, often one at the edge. */
     private static int some(int low, int high) {
-        int kind = random.nextInt(16);
+        int kind = random.nextInt(20);
+        if (kind == 4) return random.nextInt(4) > 0 ? low : random.nextBoolean() ? Integer.MIN_VALUE : Integer.MAX_VALUE;
         if (kind == 0) return low - 1;
         if (kind == 1) return high + 1;
         if (kind == 2) return low;

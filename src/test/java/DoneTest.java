@@ -6,6 +6,7 @@ public final class DoneTest {
     public static void main(String[] args) {
         promise8WhichCut();
         promise8PullAndWear();
+        promise8FiveBoats();
         promise8Sits();
         promise8Refusals();
         promise8Full();
@@ -53,6 +54,27 @@ public final class DoneTest {
         check.due("boat(2, 2)", x.boat(2, 2), 0);
         check.due("boat(3, 0)", x.boat(3, 0), 3);
         check.due("boat(3, 2)", x.boat(3, 2), 9);
+    }
+
+    /** Five boats on a ring of nine, one junction apart: none may be mistaken for another. */
+    private static void promise8FiveBoats() {
+        TowedBack x = Check.on("j9;c0 1 1;c1 2 2;c2 3 3;c3 4 4;c4 5 5;c5 6 6;c6 7 7;c7 8 8;c8 0 9;"
+                + "b0 100 1;b1 200 2;b2 300 3;b3 400 4;b8 500 5;");
+        check.due("step(1): from 1, 2, 3 back down, as that is least hard", x.step(1), 0);
+        int[] at = {1, 0, 1, 2, 7}, from = {0, 1, 2, 3, 8}, pull = {99, 198, 297, 396, 495};
+        for (int b = 0; b < 5; b++) {
+            check.due("boat(" + b + ", 0)", x.boat(b, 0), at[b]);
+            check.due("boat(" + b + ", 1)", x.boat(b, 1), from[b]);
+            check.due("boat(" + b + ", 2)", x.boat(b, 2), pull[b]);
+            check.due("boat(" + b + ", 3)", x.boat(b, 3), b + 1);
+            check.due("boat(" + b + ", 4)", x.boat(b, 4), 1);
+        }
+        check.due("told(4)", x.told(4), 1);
+        check.due("step(1)", x.step(1), 0);
+        check.due("boat(1, 0): from 1 on to 8", x.boat(1, 0), 8);
+        check.due("boat(4, 0)", x.boat(4, 0), 6);
+        check.due("step(1)", x.step(1), 0);
+        check.due("boat(1, 0): from 0 on to 7", x.boat(1, 0), 7);
     }
 
     private static void promise8Sits() {

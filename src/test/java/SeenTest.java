@@ -117,12 +117,12 @@ public final class SeenTest {
         TowedBack x = Check.on("j3;c0 1 99;c1 2 10;b0 5 0;");
         // 0 .. 99 stay at 0, the others are at 1 behind one step and at 2 from then on: 900 alike each time.
         check.due("of like ones the least", x.look(0), 1);
-        // 30 steps of wear 1 on a ring of hard 0: by 29 it sits at 2, by 30 and more it is at 0 behind the 30th.
+        // With a wear of 1 over cuts as hard as 0 it goes as many steps as it is pulled by.
         TowedBack last = Check.on("j3;c0 1 0;c1 2 0;c2 0 0;b0 5 1;");
         last.see(0, 29, 2);
         // Left are 2, 5, .. 26 (nine, that sit at 2) and 29 and on; behind 30 steps 29 sits at 2, 30 and on are at 0.
         check.due("left(0, -1)", last.left(0, -1), 9 + 971);
-        check.due("behind 28 it is at 1, those of 28 and on alike", last.look(0), 30);
+        check.due("behind 27 or 28 the greatest part is 971, behind 30 it is 970", last.look(0), 30);
     }
 
     private static void promise27Write() {

@@ -110,6 +110,10 @@ public final class TriedTest {
         check.due("least(2, 0, 9)", x.least(2, 0, 9), UNKNOWN);
         check.due("least(0, 0, 2)", x.least(0, 0, 2), OUTSIDE);
         check.due("least(0, 0, -1)", x.least(0, 0, -1), OUTSIDE);
+        TowedBack just = Check.on("j3;c0 1 5;c1 2 9;b0 6 0;b0 10 0;");
+        check.due("just enough to come there", just.least(0, 1, 0), 0);
+        check.due("just enough for the second cut", just.least(1, 2, 0), 0);
+        check.due("just too much to sit ahead of it", just.least(1, 1, 0), 1);
         TowedBack zero = Check.on("j2;c0 1 0;b0 7 0;");
         check.due("all is forgiven", zero.least(0, 0, 0), 7);
     }

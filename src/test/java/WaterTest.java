@@ -9,6 +9,7 @@ public final class WaterTest {
         promise3Water();
         promise3BeginsAnew();
         promise3FaultChangesNothingElse();
+        promise3NothingIsLeftOfATextWithAFault();
         promise4FaultOne();
         promise4FaultTwo();
         promise4FaultThree();
@@ -121,6 +122,24 @@ public final class WaterTest {
         check.due("boat(0, 0)", x.boat(0, 0), 0);
         check.due("goBack(1)", x.goBack(1), 1);
         check.due("told(4)", x.told(4), 0);
+    }
+
+    private static void promise3NothingIsLeftOfATextWithAFault() {
+        TowedBack x = new TowedBack();
+        check.due("a fault at the end", Check.pour(x, "j3;c0 1 5;c1 2 5;b2 9 9;x"), -11);
+        check.due("told(0)", x.told(0), 0);
+        check.due("told(1)", x.told(1), 0);
+        check.due("the next text", Check.pour(x, "j2;c1 0 7;b0 9 9;b1 8 8;"), 2);
+        check.due("told(0)", x.told(0), 2);
+        check.due("told(1)", x.told(1), 1);
+        check.due("cut(0, 2)", x.cut(0, 2), 7);
+        check.due("the third text", Check.pour(x, "j4;c2 3 1;b3 1 1;"), 1);
+        check.due("told(1)", x.told(1), 1);
+        check.due("cut(0, 0)", x.cut(0, 0), 2);
+        check.due("told(6)", x.told(6), 8);
+        check.due("an empty text", x.water(), 0);
+        check.due("told(1)", x.told(1), 0);
+        check.due("told(2)", x.told(2), 0);
     }
 
     private static void faulty(String text, int kind, int at) {
