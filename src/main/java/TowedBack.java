@@ -464,7 +464,8 @@ public final class TowedBack {
             faultKind = 0;
             faultAt = NONE;
             into.empty();
-            if (length > 0) readJunctions(into);
+            // Blanks tell nothing: a text of blanks alone is empty, and wants no 'j'.
+            if (goesOn()) readJunctions(into);
             for (int k = 0; k < MOST_LETTERS && goesOn(); k++) readClause(into);
             into.findOnward();
         }

@@ -57,6 +57,7 @@ public final class AgainstModelTest {
     }
 
     private static String spoilt(String good) {
+        if (random.nextInt(100) == 0) return Check.repeat(" ", random.nextInt(5));
         StringBuilder text = new StringBuilder(good);
         String signs = "jjccbb;;  00123456789xJ,-" + (char) 0 + (char) 9 + (char) 200;
         int times = random.nextInt(4);

@@ -82,7 +82,7 @@ final class Model {
         text.setLength(0);
         Parsed parsed;
         try {
-            parsed = told.isEmpty() ? new Parsed(0, new ArrayList<>(), new State()) : parse(told);
+            parsed = told.replace(" ", "").isEmpty() ? new Parsed(0, new ArrayList<>(), new State()) : parse(told);
         } catch (Fault fault) {
             faultAt = fault.at;
             return -10 - fault.kind;

@@ -10,6 +10,7 @@ public final class WaterTest {
         promise3BeginsAnew();
         promise3FaultChangesNothingElse();
         promise3NothingIsLeftOfATextWithAFault();
+        promise3BlanksAloneAreAnEmptyText();
         promise4FaultOne();
         promise4FaultTwo();
         promise4FaultThree();
@@ -142,6 +143,28 @@ public final class WaterTest {
         check.due("told(2)", x.told(2), 0);
     }
 
+    private static void promise3BlanksAloneAreAnEmptyText() {
+        check.due("one blank", Check.pour(new TowedBack(), " "), 0);
+        check.due("240 blanks", Check.pour(new TowedBack(), Check.repeat(" ", 240)), 0);
+        TowedBack x = Check.on(Check.RING);
+        x.step(1);
+        x.see(0, 1, 1);
+        x.write(0, 1);
+        x.keep(0);
+        Check.pour(x, "j1;x");
+        check.due("fault()", x.fault(), 3);
+        check.due("blanks on a water", Check.pour(x, "   "), 0);
+        check.due("fault() of blanks", x.fault(), -1);
+        for (int what = 0; what < 10; what++) check.due("told(" + what + ")", x.told(what), 0);
+        check.due("step(1)", x.step(1), NOT);
+        check.due("goBack(0)", x.goBack(0), NOT);
+        check.due("boat(0, 0)", x.boat(0, 0), UNKNOWN);
+        faulty(" ;", 1, 1);
+        faulty("  " + (char) 9, 1, 2);
+        faulty(" 7", 1, 1);
+        faulty("  j", 1, 3);
+    }
+
     private static void faulty(String text, int kind, int at) {
         TowedBack x = new TowedBack();
         check.due("water() of '" + text + "'", Check.pour(x, text), -10 - kind);
@@ -149,7 +172,6 @@ public final class WaterTest {
     }
 
     private static void promise4FaultOne() {
-        faulty(" ", 1, 1);
         faulty("c0 1 2;", 1, 0);
         faulty("  b0 0 0;", 1, 2);
         faulty(";", 1, 0);
