@@ -159,88 +159,82 @@ public final class WaterTest {
         check.due("step(1)", x.step(1), NOT);
         check.due("goBack(0)", x.goBack(0), NOT);
         check.due("boat(0, 0)", x.boat(0, 0), UNKNOWN);
-        faulty(" ;", 1, 1);
-        faulty("  " + (char) 9, 1, 2);
-        faulty(" 7", 1, 1);
-        faulty("  j", 1, 3);
-    }
-
-    private static void faulty(String text, int kind, int at) {
-        TowedBack x = new TowedBack();
-        check.due("water() of '" + text + "'", Check.pour(x, text), -10 - kind);
-        check.due("fault() of '" + text + "'", x.fault(), at);
+        check.faulty(" ;", 1, 1);
+        check.faulty("  " + (char) 9, 1, 2);
+        check.faulty(" 7", 1, 1);
+        check.faulty("  j", 1, 3);
     }
 
     private static void promise4FaultOne() {
-        faulty("c0 1 2;", 1, 0);
-        faulty("  b0 0 0;", 1, 2);
-        faulty(";", 1, 0);
-        faulty("5", 1, 0);
-        faulty("J5;", 1, 0);
-        faulty("j", 1, 1);
-        faulty("j  ", 1, 3);
-        faulty("jj", 1, 1);
-        faulty("j;", 1, 1);
-        faulty("j5", 1, 2);
-        faulty("j5c", 1, 2);
-        faulty("j5 5;", 1, 3);
-        faulty("j5;;", 1, 3);
-        faulty("j5;5", 1, 3);
-        faulty("j5;1234", 1, 3);
-        faulty("j5;C0 1 2;", 1, 3);
-        faulty("j5;x", 1, 3);
-        faulty("j5;c0 1;", 1, 7);
-        faulty("j5;c0 1 2 3;", 1, 10);
-        faulty("j5;c0 1 2", 1, 9);
-        faulty("j5;c0,1 2;", 1, 5);
-        faulty("j5;c0 -1 2;", 1, 6);
-        faulty("j5;b0 1;", 1, 7);
-        faulty("j5;b0 1 2j", 1, 9);
-        faulty("j5;b" + (char) 9 + "0 1 2;", 1, 4);
-        faulty("j5;b" + (char) 0 + "0 1 2;", 1, 4);
-        faulty("j5;b" + (char) 255 + "0 1 2;", 1, 4);
-        faulty("j5 ; " + (char) 10, 1, 5);
+        check.faulty("c0 1 2;", 1, 0);
+        check.faulty("  b0 0 0;", 1, 2);
+        check.faulty(";", 1, 0);
+        check.faulty("5", 1, 0);
+        check.faulty("J5;", 1, 0);
+        check.faulty("j", 1, 1);
+        check.faulty("j  ", 1, 3);
+        check.faulty("jj", 1, 1);
+        check.faulty("j;", 1, 1);
+        check.faulty("j5", 1, 2);
+        check.faulty("j5c", 1, 2);
+        check.faulty("j5 5;", 1, 3);
+        check.faulty("j5;;", 1, 3);
+        check.faulty("j5;5", 1, 3);
+        check.faulty("j5;1234", 1, 3);
+        check.faulty("j5;C0 1 2;", 1, 3);
+        check.faulty("j5;x", 1, 3);
+        check.faulty("j5;c0 1;", 1, 7);
+        check.faulty("j5;c0 1 2 3;", 1, 10);
+        check.faulty("j5;c0 1 2", 1, 9);
+        check.faulty("j5;c0,1 2;", 1, 5);
+        check.faulty("j5;c0 -1 2;", 1, 6);
+        check.faulty("j5;b0 1;", 1, 7);
+        check.faulty("j5;b0 1 2j", 1, 9);
+        check.faulty("j5;b" + (char) 9 + "0 1 2;", 1, 4);
+        check.faulty("j5;b" + (char) 0 + "0 1 2;", 1, 4);
+        check.faulty("j5;b" + (char) 255 + "0 1 2;", 1, 4);
+        check.faulty("j5 ; " + (char) 10, 1, 5);
     }
 
     private static void promise4FaultTwo() {
-        faulty("j0;", 2, 1);
-        faulty("j10;", 2, 1);
-        faulty("j 0001;", 2, 2);
-        faulty("j10x", 2, 1);
-        faulty("j2;c2 0 1;", 2, 4);
-        faulty("j2;c9 x", 2, 4);
-        faulty("j2;c0 2 1;", 2, 6);
-        faulty("j2;c0 0000 1;", 2, 6);
-        faulty("j2;c0 1 100;", 2, 8);
-        faulty("j2;c0 1 0099;", 2, 8);
-        faulty("j2;b2 1 1;", 2, 4);
-        faulty("j2;b0 1000 1;", 2, 6);
-        faulty("j2;b0 12345678901234567890 1;", 2, 6);
-        faulty("j2;b0 999 100;", 2, 10);
-        faulty("j2;b0 0 100", 2, 8);
+        check.faulty("j0;", 2, 1);
+        check.faulty("j10;", 2, 1);
+        check.faulty("j 0001;", 2, 2);
+        check.faulty("j10x", 2, 1);
+        check.faulty("j2;c2 0 1;", 2, 4);
+        check.faulty("j2;c9 x", 2, 4);
+        check.faulty("j2;c0 2 1;", 2, 6);
+        check.faulty("j2;c0 0000 1;", 2, 6);
+        check.faulty("j2;c0 1 100;", 2, 8);
+        check.faulty("j2;c0 1 0099;", 2, 8);
+        check.faulty("j2;b2 1 1;", 2, 4);
+        check.faulty("j2;b0 1000 1;", 2, 6);
+        check.faulty("j2;b0 12345678901234567890 1;", 2, 6);
+        check.faulty("j2;b0 999 100;", 2, 10);
+        check.faulty("j2;b0 0 100", 2, 8);
     }
 
     private static void promise4FaultThree() {
         String cuts = "c0 1 0;c0 2 0;c0 3 0;c0 4 0;c0 5 0;c0 6 0;c0 7 0;c0 8 0;c1 2 0;c1 3 0;c1 4 0;c1 5 0;c1 6 0;c1 7 0;";
-        faulty("j1;j", 3, 3);
-        faulty("j1;j1;", 3, 3);
-        faulty("j2;c0 1 0; j", 3, 11);
-        faulty("j9;" + cuts + "c", 3, 3 + cuts.length());
-        faulty("j9;" + cuts + " c0 0 0;", 3, 4 + cuts.length());
-        faulty("j9;" + Check.repeat("b0 0 0;", 5) + "b", 3, 38);
-        faulty("j9;" + Check.repeat("b0 0 0;", 5) + "b9 0 0;", 3, 38);
+        check.faulty("j1;j", 3, 3);
+        check.faulty("j1;j1;", 3, 3);
+        check.faulty("j2;c0 1 0; j", 3, 11);
+        check.faulty("j9;" + cuts + "c", 3, 3 + cuts.length());
+        check.faulty("j9;" + cuts + " c0 0 0;", 3, 4 + cuts.length());
+        check.faulty("j9;" + Check.repeat("b0 0 0;", 5) + "b", 3, 38);
+        check.faulty("j9;" + Check.repeat("b0 0 0;", 5) + "b9 0 0;", 3, 38);
         TowedBack x = new TowedBack();
         check.due("14 cuts, five boats", Check.pour(x, "j9;" + cuts + Check.repeat("b0 0 0;", 5)), 5);
         check.due("told(1)", x.told(1), 14);
     }
 
     private static void promise4FaultFour() {
-        faulty("j2;c0 0 1;", 4, 6);
-        faulty("j2;c0 0", 4, 6);
-        faulty("j2;c1 001 100;", 4, 6);
-        faulty("j2;c0 1 1;c0 1 1;", 4, 13);
-        faulty("j2;c0 1 1;c1 0 1;", 4, 13);
-        faulty("j3;c0 1 1;c1 2 1;b0 1 1;c 2  1 200;", 4, 29);
+        check.faulty("j2;c0 0 1;", 4, 6);
+        check.faulty("j2;c0 0", 4, 6);
+        check.faulty("j2;c1 001 100;", 4, 6);
+        check.faulty("j2;c0 1 1;c0 1 1;", 4, 13);
+        check.faulty("j2;c0 1 1;c1 0 1;", 4, 13);
+        check.faulty("j3;c0 1 1;c1 2 1;b0 1 1;c 2  1 200;", 4, 29);
     }
 
     private static void promise4NoFault() {
