@@ -2,7 +2,7 @@ import java.util.Random;
 
 /** Many runs of calls drawn from fixed seeds, each answer held against the slow model's: all promises. */
 public final class AgainstModelTest {
-    private static final int RUNS = 300, CALLS = 250;
+    private static final int RUNS = 500, CALLS = 150;
     private static final Check check = new Check();
     private static Random random;
     private static TowedBack x;

@@ -14,9 +14,10 @@ import java.util.stream.Stream;
 public final class SentencesTest {
     private static final Pattern SAID = Pattern.compile("check\\.says\\(\"((?:[^\"\\\\]|\\\\.)*)\"\\)");
     /** Words by which the document names an edge, a refusal or what is empty. */
-    private static final Pattern EDGE = Pattern.compile("\\d \\.\\. |\\d+ at most|at least|\\bat first\\b|\\bNONE\\b|\\bUNKNOWN\\b|\\bOUTSIDE\\b"
-            + "|\\bNOT\\b|\\bFULL\\b|\\bempty\\b|\\bwithin\\b|above 9000|\\(cut\\)|left over|of like ones|all 0|refused|\\bagain\\b"
-            + "|fifteenth|sixth|four figures|one to three|none parts|nothing can be undone");
+    private static final Pattern EDGE = Pattern.compile("\\d \\.\\. |at most|at least|\\bat first\\b|\\bNONE\\b|\\bUNKNOWN\\b|\\bOUTSIDE\\b"
+            + "|\\bNOT\\b|\\bFULL\\b|\\bempty\\b|\\bwithin\\b|above 9000|\\(cut\\)|left over|of like ones|of several|all 0|refused"
+            + "|\\bagain\\b|fifteenth|sixth|four figures|one to three|unlike|no two|but not back|more than that|never SITS|none parts"
+            + "|cannot|\\bstays\\b|\\bgone\\b|\\blost\\b|as it was|nothing changes|nothing can be undone|nor is there|of these the least");
     private static final Check check = new Check();
 
     public static void main(String[] args) throws IOException {

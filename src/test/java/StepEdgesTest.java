@@ -15,6 +15,7 @@ public final class StepEdgesTest {
         pullIsWearLess();
         elseItSits();
         mayGoOnLater();
+        boatByBoat();
         stepsAndJunctionsAreCounted();
         forgivenDownToNothing();
         weighedDownToTheMost();
@@ -146,6 +147,23 @@ public final class StepEdgesTest {
         boatIs(x, 0, 2, 1, 0, 2);
         x.weigh(1, 999);
         check.due("without a cut it sits, pulled by whatever", x.step(1), 3);
+    }
+
+    private static void boatByBoat() {
+        check.says("A STEP of all: BOAT by BOAT.");
+        String[] boats = {"b0 60 10;", "b3 25 4;", "b2 999 0;", "b0 60 10;", "b5 31 99;"};
+        String water = Check.RING.substring(0, Check.RING.indexOf('b'));
+        TowedBack all = Check.on(water + String.join("", boats)), none = Check.on(water);
+        for (int n = 0; n < 9; n++) {
+            all.step(1);
+            none.step(1);
+            for (int b = 0; b < 5; b++) {
+                TowedBack alone = Check.on(water + boats[b]);
+                alone.step(n + 1);
+                boatIs(all, b, alone.boat(0, 0), alone.boat(0, 1), alone.boat(0, 2), alone.boat(0, 4));
+            }
+        }
+        check.due("none sits where there is none", none.told(5), 0);
     }
 
     private static void stepsAndJunctionsAreCounted() {

@@ -28,6 +28,7 @@ public final class TrialEdgesTest {
         leastToWeighUpTo999();
         leastNone();
         leastRefusals();
+        changesEachToOne();
         changesSteps();
         changesAreCountedByRings();
         changesFirstOfLike();
@@ -123,7 +124,7 @@ public final class TrialEdgesTest {
     }
 
     private static void roundOnlyIfItNeverSits() {
-        check.says("NONE: it SITS.");
+        check.says("if it never SITS, how many STEPS the ring takes on which it goes in the end (from a JUNCTION, FROM another one, back to these two); NONE: it SITS.");
         check.due("no cuts", Check.on("j1;b0 999 0;").round(0), NONE);
         check.due("one cut", Check.on("j2;c0 1 0;b0 999 0;").round(0), NONE);
         check.due("a dead end", Check.on(STAIRS + "b0 999 0;").round(0), NONE);
@@ -155,10 +156,24 @@ public final class TrialEdgesTest {
         check.says("(from a JUNCTION, FROM another one, back to these two)");
         // Two rings of three with two cuts between: through each end of these twice, once each way.
         TowedBack eight = Check.on("j8;c0 1 1;c1 2 2;c2 0 2;c0 3 0;c3 4 0;c4 5 1;c5 6 1;c6 4 1;b0 9 9;");
-        check.due("eight", eight.round(0), 10);
+        eight.weigh(0, 990);
+        for (int n = 0; n <= 11; n++) {
+            check.due("eight, behind " + n + " steps", eight.round(0), 10);
+            eight.step(1);
+        }
         // The longest that was found, told by a walk of its own.
         String longest = "j9;c8 4 1;c1 2 0;c4 5 2;c1 4 1;c5 6 2;c0 6 2;c3 7 2;c6 3 3;c5 3 2;c2 4 5;c6 7 2;c7 8 3;c0 2 5;";
-        check.due("the longest", Check.on(longest + "b0 6 0;").round(0), 17);
+        TowedBack x = Check.on(longest + "b0 6 0;");
+        for (int n = 0; n <= 18; n++) {
+            check.due("the longest, behind " + n + " steps", x.round(0), 17);
+            x.step(1);
+        }
+        // At 1, FROM the dead end 0, it goes on into the ring 2, 3, 4; FROM nowhere it goes back to 0 and sits.
+        TowedBack from = Check.on("j5;c0 1 0;c1 2 5;c2 3 1;c3 4 1;c4 2 1;b0 9 0;");
+        from.step(1);
+        check.due("from 0", from.round(0), 3);
+        from.turn(0);
+        check.due("from nowhere", from.round(0), NONE);
         check.due("the longest, pulled too little", Check.on(longest + "b0 5 0;").round(0), NONE);
     }
 
@@ -229,6 +244,14 @@ public final class TrialEdgesTest {
         check.due("without a cut: it sits", x.least(1, 2, 0), 0);
         check.due("without a cut: it sits", x.least(1, 2, 1), 0);
         check.due("and not elsewhere", x.least(1, 0, 1), NONE);
+        // Pulled by 51 and worn by 10 it comes to 1 with 41: by a cut as hard as 40 it goes on, by 41 it sits.
+        TowedBack passed = Check.on("j3;c0 1 50;c1 2 40;b0 999 10;b0 0 10;");
+        check.due("none sits at 1", passed.least(0, 1, 0), NONE);
+        check.due("none sits at 1", passed.least(1, 1, 1), NONE);
+        check.due("999 to 50", passed.least(0, 0, 0), 949);
+        TowedBack just = Check.on("j3;c0 1 50;c1 2 41;b0 999 10;b0 0 10;");
+        check.due("51 alone sits at 1", just.least(0, 1, 0), 948);
+        check.due("51 alone sits at 1", just.least(1, 1, 1), 51);
     }
 
     private static void leastRefusals() {
@@ -246,6 +269,20 @@ public final class TrialEdgesTest {
     }
 
     // ---- changes
+
+    private static void changesEachToOne() {
+        check.says("CHANGES: all PULLS are given to BOATS anew (each to one)");
+        TowedBack x = Check.on(STAIRS + "b0 5 0;b0 1 0;b0 0 0;");
+        x.quay(1, 5);
+        check.due("5 goes to the one that needs it", x.changes(60, NONE), 1);
+        check.due("changes(60, 1)", x.changes(60, 1), 0);
+        check.due("changes(60, 0): its own goes the other way", x.changes(60, 0), 1);
+        x.quay(2, 5);
+        check.due("not to two", x.changes(60, NONE), NONE);
+        x.weigh(1, 4);
+        check.due("two of them do", x.changes(60, NONE), 1);
+        check.due("changes(60, 2)", x.changes(60, 2), 0);
+    }
 
     private static void changesSteps() {
         check.says("so that behind n STEPS (0 .. 60) each BOAT is at its QUAY");
@@ -267,8 +304,8 @@ public final class TrialEdgesTest {
     private static void changesAreCountedByRings() {
         check.says("fewest changes of two (as many as BOATS that get another one's PULL, 1 less for each ring of these)");
         TowedBack x = Check.on(STAIRS + "b0 1 0;b0 2 0;b0 3 0;b0 4 0;b0 5 0;");
-        int[][] orders = {{0, 1, 2, 3, 4}, {1, 0, 2, 3, 4}, {4, 1, 2, 3, 0}, {1, 0, 3, 2, 4}, {1, 2, 0, 3, 4}, {1, 0, 3, 4, 2}, {1, 2, 3, 0, 4}, {1, 2, 3, 4, 0}, {4, 0, 1, 2, 3}};
-        int[] due = {0, 1, 1, 2, 2, 3, 3, 4, 4};
+        int[][] orders = {{0, 1, 2, 3, 4}, {1, 0, 2, 3, 4}, {4, 1, 2, 3, 0}, {1, 0, 3, 2, 4}, {1, 2, 0, 3, 4}, {1, 0, 3, 4, 2}, {1, 2, 3, 0, 4}, {1, 2, 3, 4, 0}, {4, 0, 1, 2, 3}, {4, 3, 2, 1, 0}};
+        int[] due = {0, 1, 1, 2, 2, 3, 3, 4, 4, 2};
         for (int k = 0; k < orders.length; k++) {
             for (int b = 0; b < 5; b++) x.quay(b, orders[k][b] + 1);
             check.due("changes(60, -1), " + k, x.changes(60, NONE), due[k]);

@@ -6,6 +6,8 @@ public final class WaterEdgesTest {
 
     public static void main(String[] args) {
         objectServes512Calls();
+        numbersAreWhole();
+        billion();
         numbersFromZeroOn();
         setsByBits();
         noneIsMinusOne();
@@ -68,6 +70,24 @@ public final class WaterEdgesTest {
         for (; calls < 510; calls++) check.due("call " + (calls + 1) + ": turn(0)", x.turn(0), NONE);
         check.due("call 511: step(2)", x.step(2), 0);
         check.due("call 512: where(0, 60, 0)", x.where(0, 60, 0), 62 % 7);
+    }
+
+    private static void numbersAreWhole() {
+        check.says("All numbers are whole; / cuts towards 0.");
+        TowedBack x = Check.on("j1;b0 2 0;b0 1 0;");
+        check.due("towed(0): 666 and two thirds", x.towed(0), 666);
+        check.due("mercy(10, 50): 976562 and a half", x.mercy(10, 50), 976562);
+        // 230538014 becomes 2147483647, which is 32767 times 65536 and 65535: of four 3, so that nothing is forgiven.
+        x.seed(230538014);
+        x.drift(1);
+        check.due("boat(0, 2)", x.boat(0, 2), 2);
+        check.due("no more is drawn", Check.seedOf(x), 2147483647);
+    }
+
+    private static void billion() {
+        check.says("BILLION is 1000000000.");
+        check.due("mercy(0, 1)", new TowedBack().mercy(0, 1), 1000000000);
+        check.due("mercy(60, 0)", new TowedBack().mercy(60, 0), 1000000000);
     }
 
     private static void numbersFromZeroOn() {
@@ -456,6 +476,10 @@ public final class WaterEdgesTest {
         check.due("drift(1)", x.drift(1), NOT);
         check.due("dry(60)", x.dry(60), 0);
         check.due("changes(60, -1)", x.changes(60, NONE), 0);
+        Check.pour(x, Check.RING);
+        Check.pour(x, Check.RING);
+        check.due("water() of nothing behind two waters", x.water(), 0);
+        for (int what = 0; what < 10; what++) check.due("told(" + what + ") behind two waters", x.told(what), 0);
         check.reads("", 0);
         check.reads(" ", 0);
         check.reads(Check.repeat(" ", 240), 0);
@@ -515,6 +539,15 @@ public final class WaterEdgesTest {
         check.due("nothing of it is ahead of the next", Check.pour(x, "j3;b2 0 0;"), 1);
         check.due("nothing of that is left", x.water(), 0);
         check.due("feed('j')", x.feed('j'), 1);
+        TowedBack often = new TowedBack();
+        for (int k = 0; k < 3; k++) {
+            check.due("a full water", Check.pour(often, Check.RING), 3);
+            check.due("its cuts", often.told(1), 6);
+            check.due("a small one", Check.pour(often, "j2;c0 1 7;b1 9 9;"), 1);
+            check.due("its junctions", often.told(0), 2);
+            check.due("its cuts", often.told(1), 1);
+            check.due("a fault behind good clauses", Check.pour(often, "j9;c7 8 5;b8 9 9;b8 9 9;x"), -11);
+        }
     }
 
     private static void waterBeginsAnew() {
